@@ -32,6 +32,13 @@ final class Dues {
         return x;
     }
 
+    /** A text that is read with a fault at a place. */
+    static void faultAt(String text, int place, int number) {
+        DreamGraves x = fed(new DreamGraves(), text);
+        due("yard() of " + text, x.yard(), -1000100 - place);
+        due("fault() of " + text, x.fault(), number);
+    }
+
     /** A new object in which a text was read; the text must be without a fault. */
     static DreamGraves told(String text) {
         DreamGraves x = fed(new DreamGraves(), text);

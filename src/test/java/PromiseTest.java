@@ -211,9 +211,7 @@ final class PromiseTest {
     }
 
     private static void faultAt(String text, int place, int number) {
-        DreamGraves x = Dues.fed(new DreamGraves(), text);
-        due("yard() of " + text, x.yard(), -1000100 - place);
-        due("fault() of " + text, x.fault(), number);
+        Dues.faultAt(text, place, number);
     }
 
     // 7, 8
