@@ -281,11 +281,15 @@ final class EdgeDeedsTest {
             due("it has one", x.fever(s), STATE);
         }
         due("who", x.count(5), 31);
+        due("whether it has a supper", x.sleeper(4, 2), 1);
+        due("whether it has a fever", x.sleeper(4, 3), 1);
         due("ten acts", x.count(6), 10);
         x.undo();
         due("a fever again", x.fever(0), 1);
         x.undo();
         x.undo();
+        due("whether it has a supper", x.sleeper(0, 2), 0);
+        due("whether it has a fever", x.sleeper(0, 3), 0);
         due("a supper again", x.supper(0), 5);
         DreamGraves one = Dues.told("g1,1,2;m0;");
         due("there is no second", one.supper(1), BAD);
@@ -312,6 +316,7 @@ final class EdgeDeedsTest {
         DreamGraves x = Dues.told("g6,9,2;d0,0,0,0,0,0;t0,0,0,0,0,0;");
         for (int g = 0; g < 6; g++) {
             due("not dug", x.bury(g, 0), STATE);
+            due("whether it is kept", x.grave(g, 0), 1);
         }
         due("all are dug", x.years(1), 0);
         for (int g = 5; g >= 0; g--) {

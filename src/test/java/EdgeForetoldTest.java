@@ -9,6 +9,7 @@ final class EdgeForetoldTest {
     public static void main(String[] args) {
         aheadByYears();
         foretoldBeyond999();
+        feversInThisYear();
         dugBehindYears();
         dugFirst();
         suppersOfYears();
@@ -71,6 +72,27 @@ final class EdgeForetoldTest {
         due("no supper is of use", x.suppers(2, 2, -1), NONE);
         due("in 999", x.suppers(2, 1, -1), 0);
         due("the year stays", x.count(3), 999);
+    }
+
+    /** "SUPPERS, fevers as they are in this YEAR, none later". */
+    private static void feversInThisYear() {
+        DreamGraves x = Dues.told("g2,5,4;w0,5;");
+        due("dug in this year", x.dug(1), 1);
+        due("one supper for nothing", x.cheese(2), 1);
+        due("no supper helps", x.suppers(2, 1, -1), NONE);
+        x.fever(0);
+        due("in this year", x.ahead(1), 3);
+        due("in the next there is none, nor enough memory", x.ahead(2), 0);
+        due("in the next there is none", x.bound(1), 2);
+        due("kept by it, fed again", x.cheese(2), 2);
+        due("none is needed", x.suppers(2, 1, -1), 0);
+        due("no supper helps in the next", x.suppers(2, 2, -1), NONE);
+        x.row(0, 0, 2);
+        x.set(0, 0, 3);
+        x.set(0, 1, 1);
+        due("a dreamer's fever is of grave 1 alone", x.who(0, 0, 0, 1), 56);
+        due("by a whisper, too", x.whispered(1, 0, 0, 2), 1);
+        due("it stays", x.sleeper(0, 3), 1);
     }
 
     /** "DUG: behind how many YEARS (40 at most) a GRAVE is DUG (0: it is); NONE". */
@@ -183,6 +205,7 @@ final class EdgeForetoldTest {
         x.fever(1);
         due("a fever in this year", x.bound(2), 2);
         due("and the wife in the next", x.bound(1), 3);
+        due("all have suppers", Dues.told("g2,9,2;d9,0;d0,9;").bound(1), NONE);
         x.years(2);
         due("it is", x.bound(2), 0);
         due("no such grave", x.bound(3), BAD);
@@ -404,6 +427,10 @@ final class EdgeForetoldTest {
         due("no fever", Dues.told("g2,9,2;s0,8;s0,8;s0,8;s0,8;").drawn(1, 4, 0), 1);
         // X is 201684: its rest by 3 is 0, by 5 it is 4
         due("a fever of the fifth", Dues.told("g2,9,2;s0,0;s0,0;s0,0;s0,0;s0,8;").drawn(1, 12, 0), 3);
+        DreamGraves told = Dues.told("g3,9,2;s0,0,8;d0,8,0;");
+        due("the drawn fever alone", told.drawn(1, 15, 0), 5);
+        told.fever(1);
+        due("and the one that is told", told.drawn(1, 15, 0), 7);
         due("of the fifth there is none", Dues.told("g2,9,2;s0,8;s0,8;s0,8;s0,8;").drawn(1, 12, 0), 1);
     }
 
