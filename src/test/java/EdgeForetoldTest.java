@@ -174,6 +174,11 @@ final class EdgeForetoldTest {
         due("one", y.suppers(1, 2, -1), 1);
         due("none in the last", y.suppers(1, 2, 1), 0);
         due("none", y.suppers(1, 1, -1), 0);
+        DreamGraves one = Dues.told("g1,9,2;d9;");
+        due("each year one", one.suppers(1, 3, 1), 1);
+        due("fewer years leave nothing of more", one.suppers(1, 2, 1), 0);
+        due("this year one", one.suppers(1, 2, 0), 1);
+        due("fewer years leave nothing of more", one.suppers(1, 1, 0), 0);
         DreamGraves five = Dues.told("g5,9,2;d9,0,0,0,0;d0,9,0,0,0;d0,0,9,0,0;d0,0,0,9,0;d0,0,0,0,9;");
         due("the most", five.suppers(31, 3, -1), 10);
         due("all", five.suppers(31, 3, 0), 31);
